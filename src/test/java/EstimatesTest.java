@@ -109,6 +109,10 @@ public final class EstimatesTest {
         Check.answers(x, 1, "yyyyn");
         Check.answers(x, 2, "nnn");
         Check.due("likely", x.likely(0, 0), 3);
+        x.group(1, 1);
+        x.group(2, 1);
+        Check.due("likely of one yes of two", x.likely(0, 0), 1);
+        Check.due("likely of two yes", x.likely(1, 0), 2);
         Check.due("likely by the opposite", x.likely(0, 1), 0);
         Check.due("of like ones the least", x.likely(0, 2), 0);
     }

@@ -10,6 +10,8 @@ public final class GivenAwayTest {
         given();
         givenOfTwoAtMost();
         givenFaultNoneFull();
+        givenUpToTheMost("t19/20;y1/20", "t1/2;u1/2", "t9/10;y1/10", 0);
+        givenUpToTheMost("o19/20;y1/20", "o1/2;u1/2", "o9/10;y1/10", 1);
         has();
         exposed();
         limit();
@@ -101,6 +103,20 @@ public final class GivenAwayTest {
         Check.due("has of a fault, though NONE", x.has(1, 50, 0), Check.refused(NOT));
     }
 
+    /** Yes is 20, 25 and 10 times as likely for the one as for the other: 1000000000 together, and then more. */
+    private static void givenUpToTheMost(String by20, String by25, String by10, int what) {
+        SecretLots x = Check.with(by20, by20, by25, by10);
+        x.other(1);
+        for (int i = 0; i < 7; i++) {
+            x.answer(0, i / 2, 1);
+        }
+        Check.due("given up to the most", x.given(0, what), 1000000000L);
+        Check.due("given by", x.given(0, 1 - what), 1);
+        Check.due("has by the most", x.has(0, 50, what), what == 0 ? 1000000000L : 1000000001L);
+        x.answer(0, 3, 1);
+        Check.due("given above the most", x.given(0, what), Check.refused(FULL));
+    }
+
     private static void has() {
         SecretLots x = Check.with(WARNER, "t1/2;n1/2", "t1/2;y1/2");
         Check.due("has of person 24", x.has(24, 50, 0), Check.refused(BAD));
@@ -133,6 +149,8 @@ public final class GivenAwayTest {
         exposedOf("o1/4;y1/2;n1/4", 2, 1);
         exposedOf("t1/4;y1/4;n1/2", 2, 1);
         exposedOf("o1/4;y1/4;n1/2", 2, 1);
+        exposedOf("t1/2;y3/20;n7/20", 13, 3);
+        exposedOf("t1/2;n3/20;y7/20", 13, 3);
         exposedOf("u1/1", 1, 1);
         exposedOf("t3/7;o2/7;u2/7", 4, 3);
         noneExposed("y1/1");

@@ -14,6 +14,7 @@ public final class SheetsTest {
         write();
         count();
         digest();
+        fullOfAnswers();
         Check.end("SheetsTest");
     }
 
@@ -108,6 +109,8 @@ public final class SheetsTest {
         Check.due("copy to itself, ahead", x.copy(0, 1, 0, 0, 4), 1);
         rowIs(x, 0, 2, 3, 4, 5, 5);
         Check.due("copy to itself, behind", x.copy(0, 0, 0, 1, 4), 1);
+        rowIs(x, 0, 2, 2, 3, 4, 5);
+        Check.due("copy of all to itself", x.copy(0, 0, 0, 0, 5), 1);
         rowIs(x, 0, 2, 2, 3, 4, 5);
         Check.due("copy of nothing at the end", x.copy(0, 5, 1, 3, 0), 1);
         rowIs(x, 1, 0, 4, 5);
@@ -210,6 +213,22 @@ public final class SheetsTest {
         x.takeBack(4);
         x.asOf(2);
         Check.due("digest as of 2", x.digest(), digestBy(x));
+    }
+
+    /** All 120 answers are there, so that whatever looks behind the last one is told. */
+    private static void fullOfAnswers() {
+        SecretLots x = Check.with(WARNER, "t1/2;y1/4;n1/4");
+        for (int i = 0; i < 120; i++) {
+            x.answer(i % 24, i % 2, 1);
+        }
+        x.takeBack(119);
+        Check.due("answers", x.count(1), 120);
+        Check.due("known ones", x.count(2), 119);
+        Check.due("yes", x.count(3), 119);
+        Check.due("poll", x.poll(0, 1, 0), 12);
+        Check.due("given", x.given(23, 0), 9);
+        Check.due("may", x.may(23, 1), 0);
+        Check.due("digest", x.digest(), digestBy(x));
     }
 
     private static long digestBy(SecretLots x) {

@@ -80,8 +80,13 @@ public final class SoughtTest {
         Check.due("parted of a count 1000", x.parted(0, 0, 1, 0, 0), Check.refused(NOT));
         Check.row(x, 0, 0, 0, 0, 0, 7);
         Check.due("parted of nobody", x.parted(0, 0, 1, 0, 0), Check.refused(NOT));
+        Check.row(x, 0, 0, 0, 1, 0);
+        Check.fraction("parted of one", x.parted(0, 1, 1, 2, 0), x.parted(0, 1, 1, 2, 1), 1, 1);
         Check.row(x, 0, 999, 0, 0, 0);
         Check.fraction("parted of 999", x.parted(0, 1, 1, 0, 0), x.parted(0, 1, 1, 0, 1), 1, 1);
+        x.type(0, ';');
+        Check.due("parted by what has become a fault", x.parted(0, 0, 1, 0, 0), Check.refused(NOT));
+        Check.due("parted by it second", x.parted(0, 1, 0, 0, 0), Check.refused(NOT));
     }
 
     private static void partedTruth() {
