@@ -2,11 +2,18 @@
 final class Check {
     static final long LEAST = Long.MIN_VALUE;
     private static int wrong = 0;
+    private static int held = 0;
 
     private Check() {
     }
 
+    /** How many answers have been held against what is due. */
+    static int held() {
+        return held;
+    }
+
     static void due(String call, long got, long want) {
+        held++;
         if (got != want) {
             wrong++;
             System.out.println(call + " answered " + got + ", due is " + want);

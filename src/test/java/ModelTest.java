@@ -2,7 +2,8 @@ import java.util.Random;
 
 /** Long runs of calls, the same each time, in which the class must answer as the model does. */
 public final class ModelTest {
-    private static final int RUNS = 300, CALLS = 512;
+    /** A step of a run makes so many calls at most: a text is wiped, typed anew, and looked at. */
+    private static final int RUNS = 300, CALLS = 512, MOST_AT_ONCE = 40;
     private static final String[] TEXTS = {
         "t2/3;y1/6;n1/6", "t1/1", "o1/1", "y1/1", "n1/1", "u1/1", "t1/2;u1/2", "o3/4;t1/4", "t9/10;o1/10", "t19/20;y1/20",
         "t1/2;o9/20;u1/20", "o1/2;t9/20;u1/20", "t3/8;y1/3;n1/6;n1/8", "t1/2;y1/4;n1/4", "t7/12;o5/12", "t11/19;u8/19",
@@ -23,9 +24,9 @@ public final class ModelTest {
     public static void main(String[] args) {
         for (int seed = 0; seed < RUNS; seed++) {
             ModelTest run = new ModelTest(seed);
-            int calls = seed % 3 == 0 ? run.setUp() : 0;
-            for (int call = calls; call < CALLS; call++) {
-                run.call("run " + seed + " call " + call + " ");
+            int first = Check.held() - (seed % 3 == 0 ? run.setUp() : 0);
+            while (Check.held() - first < CALLS - MOST_AT_ONCE) {
+                run.call("run " + seed + " call " + (Check.held() - first) + " ");
             }
         }
         Check.end("ModelTest");

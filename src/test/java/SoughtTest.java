@@ -29,8 +29,8 @@ public final class SoughtTest {
     }
 
     private static void bestByGoingThroughAll() {
-        SecretLots x = new SecretLots();
         for (int limit = 2; limit <= 30; limit++) {
+            SecretLots x = new SecretLots();
             for (int s = 0; s <= 100; s += 5) {
                 double least = 1e9;
                 int dueA = 0;
