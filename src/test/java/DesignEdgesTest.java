@@ -6,6 +6,7 @@ public final class DesignEdgesTest {
     public static void main(String[] args) {
         aNewObject();
         objectsShareNothing();
+        theLastOf512Calls();
         textsOfUpTo60Bytes();
         aByteIs0To255();
         howManyBytesItHad();
@@ -70,6 +71,17 @@ public final class DesignEdgesTest {
         Check.due("another object's other", y.count(5), 12);
         Check.due("its own finding", x.count(8), 5);
         Check.due("its own answers", x.count(1), 15);
+    }
+
+    /** "An object is used for at most 512 calls": the last of them is answered as any other. */
+    private static void theLastOf512Calls() {
+        SecretLots x = new SecretLots();
+        for (int i = 0; i < 255; i++) {
+            Check.due("type", x.type(0, 't'), 1);
+            Check.due("wipe", x.wipe(0), 1);
+        }
+        Check.due("call 511", x.type(0, 't'), 1);
+        Check.due("call 512", x.digest(), Check.with("t").digest());
     }
 
     /** "texts of up to 60 bytes"; type: "A byte comes behind a DESIGN: how many. FULL". */

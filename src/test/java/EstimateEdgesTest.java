@@ -30,6 +30,7 @@ public final class EstimateEdgesTest {
         likelyWhereThereIsNoWay();
         spanByCFrom1To100();
         spanAtLeastCTimesTheMost();
+        spanJustLessThanCTimesTheMost();
         spanOfOne();
         spanOfTheMost();
         atLeastOfNoYes();
@@ -326,6 +327,16 @@ public final class EstimateEdgesTest {
         Check.due("no, to by 25", x.span(0, 1, 25, 1), 1);
         Check.due("no, to by 26", x.span(0, 1, 26, 1), 0);
         Check.due("no, from by 25", x.span(0, 1, 25, 0), 0);
+    }
+
+    /** The same where it is just less: ways 2 and 3, of which the less is 66 and two thirds of 100 of the most. */
+    private static void spanJustLessThanCTimesTheMost() {
+        SecretLots x = polled("t1/5;y2/5;n2/5", "y");
+        Check.due("yes, from by 66", x.span(0, 1, 66, 0), 0);
+        Check.due("yes, from by 67", x.span(0, 1, 67, 0), 1);
+        x = polled("t1/5;y2/5;n2/5", "n");
+        Check.due("no, to by 66", x.span(0, 1, 66, 1), 1);
+        Check.due("no, to by 67", x.span(0, 1, 67, 1), 0);
     }
 
     /** N 1, where only one k can be. */

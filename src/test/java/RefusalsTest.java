@@ -15,6 +15,7 @@ public final class RefusalsTest {
 
     public static void main(String[] args) {
         type();
+        faultOfWhatWasRight();
         saysYes();
         unit();
         answer();
@@ -55,6 +56,38 @@ public final class RefusalsTest {
         Unchanged.refused("type of the 61st byte: FULL", state, x -> x.type(0, 't'), FULL);
         Unchanged.refused("type of the 61st byte 256: BAD ahead of FULL", state, x -> x.type(0, 256), BAD);
         Unchanged.refused("type of the 61st byte -1: BAD ahead of FULL", state, x -> x.type(0, -1), BAD);
+    }
+
+    /** "NOT (a FAULT of the DESIGN that is asked ..)": also of one that was right, and by which all was asked before. */
+    private static void faultOfWhatWasRight() {
+        for (String more : new String[] {";", "x", "1", ";t1/1", ";y1/20"}) {
+            Unchanged.State state = () -> {
+                SecretLots x = States.ready();
+                Check.text(x, 2, more);
+                return x;
+            };
+            String behind = " of what was right, and " + more + " behind it";
+            Unchanged.refused("saysYes" + behind, state, x -> x.saysYes(2, 1, 0), NOT_LONG);
+            Unchanged.refused("unit" + behind, state, x -> x.unit(2), NOT);
+            Unchanged.refused("answer" + behind, state, x -> x.answer(0, 2, 1), NOT);
+            Unchanged.refused("read" + behind, state, x -> x.read(0, 2), NOT);
+            Unchanged.refused("share" + behind, state, x -> x.share(1, 2, 0), NOT_LONG);
+            Unchanged.refused("scatter" + behind, state, x -> x.scatter(1, 2, 0), NOT_LONG);
+            Unchanged.refused("ways" + behind, state, x -> x.ways(1, 2, 1), NOT_LONG);
+            Unchanged.refused("likely" + behind, state, x -> x.likely(1, 2), NOT);
+            Unchanged.refused("span" + behind, state, x -> x.span(1, 2, 50, 1), NOT);
+            Unchanged.refused("atLeast" + behind, state, x -> x.atLeast(1, 2, 1), NOT);
+            Unchanged.refused("away by yes" + behind, state, x -> x.away(2, 1, 0), NOT_LONG);
+            Unchanged.refused("away by no" + behind, state, x -> x.away(2, 0, 1), NOT_LONG);
+            Unchanged.refused("given" + behind, state, x -> x.given(1, 0), NOT_LONG);
+            Unchanged.refused("has" + behind, state, x -> x.has(1, 50, 0), NOT_LONG);
+            Unchanged.refused("exposed" + behind, state, x -> x.exposed(2, 0), NOT_LONG);
+            Unchanged.refused("may" + behind, state, x -> x.may(20, 2), NOT);
+            Unchanged.refused("parted first" + behind, state, x -> x.parted(1, 2, 0, 0, 0), NOT_LONG);
+            Unchanged.refused("parted second" + behind, state, x -> x.parted(1, 0, 2, 0, 0), NOT_LONG);
+            Unchanged.refused("kept" + behind, state, x -> x.kept(1, 2), NOT);
+            Unchanged.refused("write" + behind, state, x -> x.write(2, 0), NOT);
+        }
     }
 
     /** BAD; NOT. */
